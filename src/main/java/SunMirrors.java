@@ -437,7 +437,7 @@ public final class SunMirrors {
         return worst;
     }
 
-    /** Fills sums: by a QUARTER and by the PATCH ahead of it (one more than its number), what can come from there on. */
+    /** Fills sums, by a QUARTER and the PATCH ahead of it (one more than its number): what can come from there on. */
     private void sumFromBehind(Mirror mirror) {
         for (int patch = 0; patch < now.patchCount; patch++) {
             cans[patch] = now.canQuarters(mirror, patch, now.today);
@@ -476,7 +476,7 @@ public final class SunMirrors {
         return -1;
     }
 
-    /** Fills planned and always: what each MIRROR gives each PATCH by the PLAN, and if the PLAN were that PATCH alone. */
+    /** Fills planned and always: what MIRRORS give PATCHES by the PLAN, and if their PLAN were that PATCH alone. */
     private void countLight() {
         for (int number = 0; number < now.mirrorCount; number++) {
             Mirror mirror = now.mirrors[number];
@@ -996,10 +996,10 @@ public final class SunMirrors {
             int number = test % 100;
             int bits = 0;
             for (int quarter = 0; quarter < QUARTERS; quarter++) {
-                int more = (tested == QUARTER ? quarter : values[tested]) - number;
-                boolean less = compared == 0 && more < 0;
-                boolean same = compared == 1 && more == 0;
-                if (less || same || compared == 2 && more > 0) bits |= 1 << quarter;
+                int value = tested == QUARTER ? quarter : values[tested];
+                // By the places of COMPARED.
+                int is = value < number ? 0 : value == number ? 1 : 2;
+                if (is == compared) bits |= 1 << quarter;
             }
             return bits;
         }

@@ -305,6 +305,9 @@ public final class PromiseTests {
         due("backwards, lower", freeBehind(4000, 40, 10, 0, 1000, 1040, 11), 0);
         due("aslant at a third, 40 * 2 / 3 is over 26", freeBehind(0, 40, 10, 3030, 20, 2000, 26), 1);
         due("aslant at a third, 40 * 2 / 3 is below 27", freeBehind(0, 40, 10, 3030, 20, 2000, 27), 0);
+        due("aslant from aside, higher", freeBehind(1030, 30, 10, 3010, 1010, 4040, 15), 1);
+        due("aslant from aside, lower", freeBehind(1030, 30, 10, 3010, 1010, 4040, 16), 0);
+        due("the least cross", freeBehind(0, 1, 10, 100, 100, 101, 1), 0);
         SunMirrors s = new SunMirrors();
         s.mirror(0, 0, make(0, 40, 1, 0));
         s.patch(4000, 0, 0);
@@ -343,6 +346,7 @@ public final class PromiseTests {
         due("q<3", litBits("lit q<3"), 7007);
         due("q>3", litBits("lit q>3"), 240240);
         due("m=1", litBits("lit m=1"), 255);
+        due("m<0", litBits("lit m<0|q=1"), 2002);
         due("m<1", litBits("lit m<1"), 255000);
         due("h=20", litBits("lit h=20"), 255);
         due("h<10", litBits("lit h<10"), 255000);
@@ -363,7 +367,16 @@ public final class PromiseTests {
         due("not of brackets", litBits("lit !(q=0&m=1)"), 255254);
         due("not not", litBits("lit !!q=0"), 1001);
         due("three of or and and", litBits("lit q=0|q=1|q=2&q=3|q=4"), 19019);
-        due("deep", litBits("lit q=0|q=1&(q=9|q<8&(q=2|q<7&(q=3|q<6&(q=4|q<5&(q=1|m=7)))))"), 3003);
+        due("deep", litBits("lit q=0|q=1&(q=9|q<8&(q=2|q<7&(q=3|q<6&(q=4|q<5&(q=1|q=2&m<9)))))"), 3003);
+        SunMirrors rules = new SunMirrors();
+        rules.mirror(0, 0, make(0, 9, 1, 0));
+        rules.patch(0, 0, 0);
+        read(rules, "own q=1;eyes q=2");
+        due("own", rules.has(0, 2), 2);
+        due("own alone is no lit", rules.can(0, 0, 0), 0);
+        read(rules, "lit q=1;".repeat(8) + "lit q=3;lit q=5");
+        due("ten lits", rules.can(0, 0, 0), 2 + 8 + 32);
+        due("no own", rules.has(0, 2), 0);
         SunMirrors s = new SunMirrors();
         s.mirror(0, 0, make(0, 9, 1, 0));
         s.patch(0, 0, 0);
@@ -512,6 +525,13 @@ public final class PromiseTests {
         due("turn 0, none turns", free.judged(), -5);
         read(free, "turn 0");
         due("not lit", free.judged(), 0);
+        planAll(free, 0, "-0------");
+        due("not lit, patch 0", free.judged(), 10);
+        SunMirrors down = sunny("lit q<8;turn 1");
+        planAll(down, 0, "-0------");
+        due("lit, patch 0", down.judged(), -5);
+        planAll(down, 0, "20------");
+        due("turned down to patch 0", down.judged(), 10);
     }
 
     private static void promise13() {
@@ -636,6 +656,11 @@ public final class PromiseTests {
         due("the second makes more", s.fair(0), 10);
         due("both have 24", s.fair(1), 24);
         due("the plan stays", s.has(0, 0), 16);
+        planAll(s, 0, "--------");
+        planAll(s, 1, "00000000");
+        planAll(s, 2, "--------");
+        due("the third takes patch 1", s.fair(0), 21);
+        due("patch 0 has the least", s.fair(1), 16);
         due("what -1", s.fair(-1), -1);
     }
 
@@ -842,6 +867,12 @@ public final class PromiseTests {
         due("a wall through both at one point is not between", one.passed(0, 0, 0), 1);
         one.wall(1000, 1020, 13);
         due("but it is on the way on", one.passed(0, 0, 0), -5);
+        SunMirrors first = new SunMirrors();
+        first.mirror(5, 0, make(0, 10, 1, 0));
+        first.mirror(1, 1000, make(0, 10, 1, 0));
+        first.patch(4010, 0, 0);
+        read(first, "lit q=7");
+        due("by mirror 0", first.passed(1, 0, 7), 0);
     }
 
     private static SunMirrors patches(int size) {
@@ -904,6 +935,9 @@ public final class PromiseTests {
         due("no rows", s.holds(0), -3);
         s.vote(1);
         due("the old rows are gone", s.holds(0), 0);
+        s.clear();
+        s.vote(10);
+        due("they are gone the other way, too", s.holds(0), 1);
     }
 
     private static void promise25() {
@@ -948,6 +982,11 @@ public final class PromiseTests {
         due("the ring the other way", other.holds(1), 21);
         due("the one ahead of all holds", other.holds(0), 3);
         due("order", other.holds(10), 3);
+        SunMirrors low = patches(4);
+        low.vote(1230);
+        low.vote(2310);
+        low.vote(3120);
+        due("the ring without 0", low.holds(1), 123);
         SunMirrors late = patches(5);
         late.vote(14230);
         late.vote(42301);

@@ -141,7 +141,7 @@ public final class RandomRuns {
         int clauses = random.nextInt(12) == 0 ? 9 + random.nextInt(3) : 1 + random.nextInt(6);
         for (int i = 0; i < clauses; i++) {
             if (i > 0) text.append(';');
-            int kind = i == 0 ? 0 : random.nextInt(clauses > 8 ? 9 : 6);
+            int kind = i == 0 && random.nextInt(12) > 0 ? 0 : random.nextInt(clauses > 8 ? 9 : 6);
             int deep = clauses > 8 ? 0 : random.nextInt(10) == 0 ? 6 : 2;
             if (kind == 0 || kind == 1) text.append("lit ").append(random.nextInt(3) == 0 ? "q<9" : rule(deep));
             else if (kind == 2) text.append("eyes ").append(rule(deep));
