@@ -997,9 +997,9 @@ public final class SunMirrors {
             int bits = 0;
             for (int quarter = 0; quarter < QUARTERS; quarter++) {
                 int value = tested == QUARTER ? quarter : values[tested];
-                // By the places of COMPARED.
-                int is = value < number ? 0 : value == number ? 1 : 2;
-                if (is == compared) bits |= 1 << quarter;
+                // Numbered as the signs stand in COMPARED.
+                int order = value < number ? 0 : value == number ? 1 : 2;
+                if (order == compared) bits |= 1 << quarter;
             }
             return bits;
         }
