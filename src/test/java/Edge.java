@@ -228,16 +228,18 @@ final class Edge {
     }
 
     private static void seeMade(SunMirrors s, List<String> seen) {
+        int mirrors = s.count(0);
+        int patches = s.count(1);
         for (int what = 0; what < 8; what++) {
             see(seen, "count(" + what + ")", s.count(what));
         }
-        for (int m = 0; m < s.count(0); m++) {
+        for (int m = 0; m < mirrors; m++) {
             for (int what = 0; what < 7; what++) {
                 see(seen, "of(" + m + ", " + what + ")", s.of(m, what));
                 see(seen, "as(" + m + ", " + what + ")", s.as(m, what));
             }
         }
-        for (int p = 0; p < s.count(1); p++) {
+        for (int p = 0; p < patches; p++) {
             for (int what = 0; what < 4; what++) {
                 see(seen, "is(" + p + ", " + what + ")", s.is(p, what));
             }
@@ -245,8 +247,10 @@ final class Edge {
     }
 
     private static void seeWays(SunMirrors s, List<String> seen) {
-        for (int m = 0; m < s.count(0); m++) {
-            for (int p = 0; p < s.count(1); p++) {
+        int mirrors = s.count(0);
+        int patches = s.count(1);
+        for (int m = 0; m < mirrors; m++) {
+            for (int p = 0; p < patches; p++) {
                 see(seen, "free(" + m + ", " + p + ")", s.free(m, p));
                 see(seen, "can(" + m + ", " + p + ", 0)", s.can(m, p, 0));
                 see(seen, "can(" + m + ", " + p + ", 1)", s.can(m, p, 1));
@@ -255,6 +259,8 @@ final class Edge {
     }
 
     private static void seePlans(SunMirrors s, List<String> seen) {
+        int mirrors = s.count(0);
+        int patches = s.count(1);
         see(seen, "judged()", s.judged());
         for (int what = 0; what < 2; what++) {
             see(seen, "worth(" + what + ")", s.worth(what));
@@ -267,12 +273,12 @@ final class Edge {
         for (int n = 1; n <= 9; n++) {
             see(seen, "coarse(" + n + ")", s.coarse(n));
         }
-        for (int p = 0; p < s.count(1); p++) {
+        for (int p = 0; p < patches; p++) {
             for (int what = 0; what < 3; what++) {
                 see(seen, "has(" + p + ", " + what + ")", s.has(p, what));
             }
         }
-        for (int m = 0; m < s.count(0); m++) {
+        for (int m = 0; m < mirrors; m++) {
             for (int i = -1; i < 8; i++) {
                 see(seen, "best(" + m + ", " + i + ")", s.best(m, i));
             }
@@ -280,7 +286,8 @@ final class Edge {
     }
 
     private static void seeChances(SunMirrors s, List<String> seen) {
-        for (int p = 0; p < s.count(1); p++) {
+        int patches = s.count(1);
+        for (int p = 0; p < patches; p++) {
             see(seen, "gone(" + p + ")", s.gone(p));
             for (int k = 0; k <= 8; k++) {
                 see(seen, "kept(" + p + ", " + k + ", 0)", s.kept(p, k, 0));
@@ -290,9 +297,11 @@ final class Edge {
     }
 
     private static void seePassed(SunMirrors s, List<String> seen) {
-        for (int m = 0; m < s.count(0); m++) {
-            for (int p = 0; p < s.count(1); p++) {
-                for (int q = 0; q < 8; q += 2) {
+        int mirrors = s.count(0);
+        int patches = s.count(1);
+        for (int m = 0; m < mirrors; m++) {
+            for (int p = 0; p < patches; p++) {
+                for (int q = 0; q < 8; q++) {
                     see(seen, "passed(" + m + ", " + p + ", " + q + ")", s.passed(m, p, q));
                 }
             }
@@ -300,7 +309,8 @@ final class Edge {
     }
 
     private static void seePlan(SunMirrors s, List<String> seen) {
-        for (int m = 0; m < s.count(0); m++) {
+        int mirrors = s.count(0);
+        for (int m = 0; m < mirrors; m++) {
             for (int q = 0; q < 8; q++) {
                 see(seen, "plan(" + m + ", " + q + ", -1)", s.plan(m, q, -1));
             }
@@ -341,8 +351,9 @@ final class Edge {
     }
 
     private static void seeDay(SunMirrors s, List<String> seen) {
+        int patches = s.count(1);
         see(seen, "day()", s.day());
-        for (int p = 0; p < s.count(1); p++) {
+        for (int p = 0; p < patches; p++) {
             see(seen, "is(" + p + ", 3)", s.is(p, 3));
             see(seen, "has(" + p + ", 0)", s.has(p, 0));
         }

@@ -7,6 +7,7 @@ public final class EdgesOfMaking {
 
     public static void main(String[] args) {
         aNewObject();
+        lastCall();
         mirrorNumbers();
         mirrorRefusals();
         patch();
@@ -66,6 +67,22 @@ public final class EdgesOfMaking {
             Edge.refused("valley() of no byte", Edge::empty, SunMirrors::valley, -10);
             Edge.due("image()", new SunMirrors().image(), 0);
             Edge.due("day()", new SunMirrors().day(), 1);
+        });
+    }
+
+    private static void lastCall() {
+        Edge.promise("1 a new object");
+        Edge.test("used for at most 512 calls: the last one is as the first", () -> {
+            SunMirrors s = new SunMirrors();
+            for (int call = 1; call < 512; call++) {
+                s.valley();
+            }
+            Edge.due("mirror()", s.mirror(0, 0, LEAST), 0);
+            SunMirrors planned = Edge.plain(1, 1, "lit q<8");
+            for (int call = 5; call < 512; call++) {
+                planned.plan(0, call % 8, call % 2 - 1);
+            }
+            Edge.due("has(0, 0)", planned.has(0, 0), 4);
         });
     }
 

@@ -72,6 +72,13 @@ public final class EdgesOfThrowing {
             dueFree(0, 9, 2020, 2020, 4040, 40, 1);
             dueFree(1000, 9, 4000, 1010, 4011, 40, 1);
         });
+        Edge.test("never, if they are parallel: nearly so they meet", () -> {
+            // The cross of both ways is 1, the least there can be, or -1.
+            dueFree(0, 1, 100, 100, 101, 1, 0);
+            dueFree(0, 1, 4039, 101, 4039, 1, 0);
+            dueFree(4039, 39, 0, 101, 4039, 40, 0);
+            dueFree(0, 40, 4039, 1, 3939, 40, 1);
+        });
         Edge.test("never, if one of both is a point", () -> {
             dueFree(0, 9, 4000, 2000, 2000, 40, 1);
             dueFree(0, 9, 4000, 4000, 4000, 40, 1);
@@ -214,6 +221,24 @@ public final class EdgesOfThrowing {
 
     private static void canTests() {
         Edge.promise("10 can");
+        Edge.test("a number: 0 and 99, of each TEST", () -> {
+            // m is 0, p 99, q each of 0 .. 7, d 0, h 9.
+            int[][] bits = {{0, 255, 0, 255, 0, 0}, {0, 0, 255, 0, 255, 0}, {0, 1, 254, 255, 0, 0}, {0, 255, 0, 255, 0, 0},
+                {0, 0, 255, 255, 0, 0}};
+            String[] signs = {"<0", "=0", ">0", "<99", "=99", ">99"};
+            for (int test = 0; test < 5; test++) {
+                for (int sign = 0; sign < 6; sign++) {
+                    String text = "lit " + "mpqdh".charAt(test) + signs[sign];
+                    Edge.due(text, lit(text), bits[test][sign]);
+                }
+            }
+        });
+        Edge.test("at most 5 of ! and ( are open: with all that can wait in each", () -> {
+            Edge.due("holds to the innermost", lit("lit q=0|q<8&(q=1|q<7&(q=2|q<7&(q=3|q<7&(q=4|q<7&(q=5|q<7&q>5)))))"), 127);
+            Edge.due("holds not", lit("lit q=9|q<8&(q=9|q<7&(q=9|q<7&(q=9|q<7&(q=9|q<7&(q=5|q<7&q>6)))))"), 32);
+            Edge.due("not of not", lit("lit q=9|q<8&!!!!!q=3"), 247);
+            Edge.due("not of brackets", lit("lit q=9|q<8&!(q=9|q<8&!(q=9|q<8&!q=3))"), 247);
+        });
         Edge.test("m the MIRROR's number", () -> {
             SunMirrors s = Edge.plain(6, 1, "lit m=0&q=0|m=5&q=5|m>4&q=7|m<1&q=1|m=6");
             int[] bits = {3, 0, 0, 0, 0, 32 + 128};
@@ -283,11 +308,13 @@ public final class EdgesOfThrowing {
             Edge.due("v 0", may(3, 0, 2020, 2021, 2019, 20, 4020, 4021), 8 + 16);
             Edge.due("v 1", may(3, 1, 2020, 2021, 2019, 2022, 2018, 4021), 2 + 4 + 32);
             Edge.due("v 9", may(3, 9, 2020, 2029, 2011, 2030, 2010, 29), 2 + 4 + 32);
+            Edge.due("v 9, but for its own point all there are less apart", may(3, 9, 2020, 2021, 2028, 2012, 20, 4019), 62);
         });
         Edge.test("GREAT: x of both v or more apart", () -> {
             Edge.due("v 0", may(4, 0, 2020, 2021, 2019, 2120, 1920, 0), 62);
             Edge.due("v 1", may(4, 1, 2020, 2021, 2019, 2120, 1920, 2000), 8 + 16);
             Edge.due("v 9", may(4, 9, 2020, 2920, 1120, 2820, 1220, 1140), 2 + 4 + 32);
+            Edge.due("v 9, farther and nearer ones", may(4, 9, 3020, 1020, 4020, 20, 2120, 2000), 15);
         });
         Edge.test("PASSING: as FIXED", () -> {
             for (int v = 0; v <= 9; v++) {
