@@ -946,7 +946,7 @@ public final class SunMirrors {
         private final int[] words = new int[CLAUSES];
         private final int[] ends = new int[CLAUSES];
         private int clauseCount = 0;
-        private final int[] values = new int[5];
+        private final int[] values = new int[TESTED.length()];
         // Each open ( leaves one part of a | and one of a & to wait; so does the E outside of all.
         private final int[] stack = new int[2 * (OPEN + 1) + 1];
         int cloud = 0;
@@ -976,18 +976,25 @@ public final class SunMirrors {
             int count = 0;
             for (int i = from; i < to; i++) {
                 int step = steps[i];
+                int first = count - partsOf(step);
+                // Reading leaves each step its parts and a place; the index is looked at all the same.
+                if (first < 0 || first >= stack.length) return 0;
                 if (step >= 0) {
-                    stack[count] = quartersOfTest(step);
-                    count++;
+                    stack[first] = quartersOfTest(step);
                 } else if (step == NOT) {
-                    stack[count - 1] ^= ALL_QUARTERS;
+                    stack[first] ^= ALL_QUARTERS;
                 } else {
-                    count--;
-                    int last = stack[count];
-                    stack[count - 1] = step == AND ? stack[count - 1] & last : stack[count - 1] | last;
+                    int last = stack[count - 1];
+                    stack[first] = step == AND ? stack[first] & last : stack[first] | last;
                 }
+                count = first + 1;
             }
             return stack[0];
+        }
+
+        /** How many of the latest answers a step takes. */
+        private static int partsOf(int step) {
+            return step >= 0 ? 0 : step == NOT ? 1 : 2;
         }
 
         private int quartersOfTest(int test) {
